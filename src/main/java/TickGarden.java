@@ -201,7 +201,7 @@ public final class TickGarden {
         }
         int bestDrop = 0;
         int bestEvery = 0;
-        int bestOff = Integer.MAX_VALUE;
+        int bestOff = ROW_TICKS + 1;
         for (int drop = 1; drop <= WISH_MOST_DROP; drop++) {
             for (int every = 1; every <= WISH_MOST_EVERY; every++) {
                 int off = offOf(wish, loneRow(size, rest, drop, every));
@@ -352,7 +352,7 @@ public final class TickGarden {
     }
 
     private static int offOf(long wish, long row) {
-        int least = Integer.MAX_VALUE;
+        int least = ROW_TICKS;
         for (int h = -MOST_SHIFT; h <= MOST_SHIFT; h++) {
             long shifted = h < 0 ? row >>> -h : row << h & ROW_BITS;
             least = Math.min(least, Long.bitCount(wish ^ shifted) + Math.abs(h));
