@@ -888,6 +888,21 @@ public final class PromiseTest {
         x.hear(5, bits(5, 35));
         // spout 1 with bucket 6, or with the pipe of bucket 5
         blamedIs(x, 2, 2, 1, 16);
+
+        // the last bucket and its pipe
+        x = new TickGarden();
+        for (int b = 0; b < 8; b++) {
+            x.bucket(1, 0);
+        }
+        x.pipe(7, 0, 10);
+        x.spout(7, 1, 30, 0);
+        x.spout(7, 1, 30, 1);
+        x.spout(0, 1, 30, 5);
+        x.hear(7, 0);
+        x.hear(0, bits(5, 35));
+        blamedIs(x, 1, 1, 17, NONE);
+        x.hear(7, bits(0, 1, 30, 31));
+        blamedIs(x, 1, 1, 27, NONE);
     }
 
     private static void mended() {
@@ -953,6 +968,24 @@ public final class PromiseTest {
         mendedIs(x, 1, 1, 1, 2, 0, 2);
         x.turn(1, 17);
         mendedIs(x, 1, 1, 1, NONE, 0, 0);
+        // 1 less 2 would be -1, and with the wet 0
+        x = lone(1, 1, 0);
+        x.weather(0, 1);
+        mendedIs(x, 0, 0, 1, NONE, 0);
+        x.weather(0, 0);
+        mendedIs(x, 0, 0, 1, 1, -1);
+        // the first of all ways, and the last one
+        x = lone(2, 1, 0);
+        for (int s = 1; s < 4; s++) {
+            x.spout(0, 2, 1, 0);
+        }
+        mendedIs(x, 0, 0, 3, 8, -2, -2, -2, -2);
+        x = new TickGarden();
+        x.bucket(8, 0);
+        for (int s = 0; s < 4; s++) {
+            x.spout(0, 0, 1, 0);
+        }
+        mendedIs(x, 0, 3, 3, 8, 2, 2, 2, 2);
     }
 
     /** Of ways with the same sum the one with the lesser change at the first spout where they differ. */
