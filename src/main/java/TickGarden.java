@@ -10,7 +10,7 @@ public final class TickGarden {
     private static final int LATEST = 2000, MOST_TICKS_AT_ONCE = 200;
     private static final int ROW_TICKS = 60;
     private static final long ROW_BITS = (1L << ROW_TICKS) - 1;
-    private static final int ROUND_FROM = 31, ROUND_MOST = 1000, MEETING_TICKS = 1000;
+    private static final int ROUND_FROM = 31, ROUND_LATEST = 1000, MEETING_TICKS = 1000;
     private static final int WISH_MOST_DROP = 8, WISH_MOST_EVERY = 8, MOST_SHIFT = 5;
     private static final int MUTE_FAULTS = 10, CUT_FAULTS = 20, FAULTS = 30;
     private static final int MOST_KNOCKS = 200, MOST_TURN_TICKS = 200;
@@ -174,7 +174,8 @@ public final class TickGarden {
             return OUTSIDE;
         }
         int length = roundLength();
-        return length == NONE || what == 1 ? length : roundStart(length);
+        int start = length == NONE ? NONE : roundStart(length);
+        return what == 0 || start == NONE ? start : length;
     }
 
     public int meeting(int b, int c) {
@@ -291,12 +292,12 @@ public final class TickGarden {
 
     /**
      * From tick ROUND_FROM on, a state and the tick's place in the beat of spouts and dryness settle all that follows:
-     * so what comes again once comes again for good, and if there is a round at all, tick ROUND_MOST is in it.
+     * so what comes again once comes again for good, and if there is a round at all, tick ROUND_LATEST is in it.
      */
     private int roundLength() {
-        runPlain(trial, ROUND_MOST);
-        runPlain(later, ROUND_MOST);
-        for (int n = 1; n <= ROUND_MOST; n++) {
+        runPlain(trial, ROUND_LATEST);
+        runPlain(later, ROUND_LATEST);
+        for (int n = 1; ROUND_FROM + n <= ROUND_LATEST; n++) {
             later.step();
             if (plan.isBeat(n) && later.isLike(trial)) {
                 return n;
@@ -305,18 +306,18 @@ public final class TickGarden {
         return NONE;
     }
 
-    /** The round has the same length wherever it begins: so only its beginning is sought here. */
+    /** The round has the same length wherever it begins: so only its beginning is sought here, NONE if that is too late. */
     private int roundStart(int length) {
         runPlain(trial, ROUND_FROM);
         runPlain(later, ROUND_FROM + length);
-        for (int a = ROUND_FROM; a < ROUND_MOST; a++) {
+        for (int a = ROUND_FROM; a + length <= ROUND_LATEST; a++) {
             if (later.isLike(trial)) {
                 return a;
             }
             trial.step();
             later.step();
         }
-        return ROUND_MOST;
+        return NONE;
     }
 
     private void runPlain(Flow flow, int ticks) {

@@ -797,16 +797,15 @@ public final class BoundaryTest {
     }
 
     /**
-     * Bucket 0 fills at tick first and 975, and each 1000 ticks later; 19 ticks later its water comes to bucket 1 and goes
-     * round there each 11 ticks, until the next water comes one tick ahead of it and it is lost: so the tick after that
-     * is the first one from which all is as 1000 ticks before.
+     * Bucket 0 fills at tick first and 475, and each 500 ticks later; 19 ticks later its water comes to bucket 1 and goes
+     * round there each 3 ticks, until the next water comes one tick ahead of it and it is lost: so the tick after that
+     * is the first one from which all is as 500 ticks before, and that is tick first and 496.
      */
     private static TickGarden lateRound(int first) {
-        TickGarden x = new TickGarden();
-        x.bucket(40, 16);
-        x.bucket(3, 4);
+        TickGarden x = buckets(1, 20, 0);
+        x.bucket(3, 1);
         x.pipe(0, 1, 19);
-        x.pipe(1, 1, 11);
+        x.pipe(1, 1, 3);
         x.spout(0, 1, 25, first);
         return x;
     }
@@ -826,17 +825,27 @@ public final class BoundaryTest {
         roundIs(x, 50, 1);
     }
 
+    /** "a and n" is the sum, as in "ahead of TICK a and n" of the same sentence. */
     private static void roundAtMost1000() {
         sentence("a and n at most 1000");
-        roundIs(lateRound(3), 999, 1000);
-        roundIs(lateRound(4), 1000, 1000);
+        roundIs(lateRound(0), 496, 500);
+        roundIs(lateRound(3), 499, 500);
+        roundIs(lateRound(4), 500, 500);
         roundIs(lateRound(5), NONE, NONE);
-        TickGarden x = buckets(1, 37, 0);
+        roundIs(lateRound(30), NONE, NONE);
+        // from tick 31 on, n is 969 at most
+        TickGarden x = buckets(1, 51, 0);
+        x.spout(0, 1, 19, 0);
+        roundIs(x, 31, 969);
+        x = buckets(1, 97, 0);
+        x.spout(0, 1, 10, 0);
+        roundIs(x, NONE, NONE);
+        x = buckets(1, 37, 0);
         x.spout(0, 1, 27, 0);
-        roundIs(x, 31, 999);
+        roundIs(x, NONE, NONE);
         x = buckets(1, 40, 0);
         x.spout(0, 1, 25, 0);
-        roundIs(x, 31, 1000);
+        roundIs(x, NONE, NONE);
         x = buckets(1, 77, 0);
         x.spout(0, 1, 13, 0);
         roundIs(x, NONE, NONE);
@@ -859,6 +868,15 @@ public final class BoundaryTest {
         x.dry(0);
         x.spout(0, 0, 13, 0);
         // 1001
+        roundIs(x, NONE, NONE);
+        // 3, 17 and 19 go into 969
+        x = buckets(1, 1, 0);
+        x.spout(0, 0, 17, 0);
+        x.spout(0, 0, 19, 0);
+        roundIs(x, 31, 323);
+        x.dry(3);
+        roundIs(x, 31, 969);
+        x.dry(4);
         roundIs(x, NONE, NONE);
         x = new TickGarden();
         x.bucket(1, 0);

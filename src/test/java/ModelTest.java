@@ -197,13 +197,13 @@ public final class ModelTest {
             if (out(what, 0, 1)) return OUTSIDE;
             Run run = new Run(this);
             run.plain = true;
-            int[][] states = new int[2001][];
-            for (int t = 0; t <= 2000; t++) {
+            int[][] states = new int[1001][];
+            for (int t = 0; t <= 1000; t++) {
                 states[t] = run.state();
                 run.tick();
             }
             for (int a = 31; a <= 1000; a++) {
-                for (int n = 1; n <= 1000; n++) {
+                for (int n = 1; a + n <= 1000; n++) {
                     if (goesRound(n) && Arrays.equals(states[a], states[a + n])) return what == 0 ? a : n;
                 }
             }

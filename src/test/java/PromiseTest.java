@@ -571,8 +571,11 @@ public final class PromiseTest {
         roundIs(x, NONE, NONE);
         x = lone(0, 9, 0);
         x.spout(0, 0, 10, 0);
+        x.dry(7);
+        roundIs(x, 31, 630);
         x.dry(11);
-        roundIs(x, 31, 990);
+        // 31 and 990
+        roundIs(x, NONE, NONE);
         x = new TickGarden();
         x.bucket(1, 20);
         x.spout(0, 1, 1, 0);
@@ -592,23 +595,27 @@ public final class PromiseTest {
         due(n, x.round(1));
     }
 
+    /** A and n together are 1000 at most. */
     private static void longRounds() {
+        roundIs(filledBy(51, 19), 31, 969);
+        roundIs(filledBy(97, 10), NONE, NONE);
+        roundIs(filledBy(50, 20), NONE, NONE);
+        roundIs(filledBy(34, 30), NONE, NONE);
         TickGarden x = new TickGarden();
-        x.bucket(50, 0);
-        x.spout(0, 1, 20, 0);
-        roundIs(x, 31, 1000);
-        x = new TickGarden();
-        x.bucket(34, 0);
-        x.spout(0, 1, 30, 0);
-        roundIs(x, NONE, NONE);
-        x = new TickGarden();
         x.bucket(2, 0);
         x.spout(0, 2, 30, 0);
         x.pipe(0, 0, 20);
         roundIs(x, NONE, NONE);
     }
 
-    /** What comes by pipes counts by its tick; the last two were also found by a search that looked at each a and n. */
+    private static TickGarden filledBy(int drips, int every) {
+        TickGarden x = new TickGarden();
+        x.bucket(drips, 0);
+        x.spout(0, 1, every, 0);
+        return x;
+    }
+
+    /** What comes by pipes counts by its tick. */
     private static void lateRounds() {
         TickGarden x = lone(1, 1, 30);
         x.bucket(1, 0);
@@ -619,24 +626,47 @@ public final class PromiseTest {
         x.pipe(0, 1, 2);
         roundIs(x, 32, 1);
         x = new TickGarden();
-        int[][] buckets = {{20, 20}, {20, 13}, {6, 6}, {20, 0}, {4, 2}};
-        for (int[] it : buckets) {
-            x.bucket(it[0], it[1]);
-        }
-        x.spout(1, 1, 6, 19);
-        x.spout(2, 2, 2, 14);
-        x.pipe(1, 0, 12);
-        x.pipe(3, 4, 14);
-        x.pipe(4, 2, 6);
-        x.dry(28);
-        roundIs(x, 1000, 336);
-        x = new TickGarden();
         x.bucket(36, 5);
         x.bucket(1, 11);
         x.spout(1, 3, 20, 0);
         x.spout(1, 7, 19, 28);
         x.pipe(0, 0, 4);
         x.pipe(1, 0, 18);
+        roundIs(x, NONE, NONE);
+        latestRounds();
+    }
+
+    /** Found by a search, and looked over by one that tries each a and n: the last ones taken and the first ones not. */
+    private static void latestRounds() {
+        TickGarden x = new TickGarden();
+        x.bucket(2, 2);
+        x.bucket(48, 10);
+        x.spout(0, 5, 8, 22);
+        x.spout(0, 4, 30, 19);
+        x.pipe(0, 0, 11);
+        x.pipe(1, 0, 7);
+        roundIs(x, 880, 120);
+        x = new TickGarden();
+        x.bucket(1, 11);
+        x.spout(0, 2, 18, 27);
+        x.spout(0, 9, 19, 5);
+        x.pipe(0, 0, 18);
+        roundIs(x, 658, 342);
+        // tick 749, length 252
+        x = new TickGarden();
+        x.bucket(8, 2);
+        x.spout(0, 2, 18, 27);
+        x.spout(0, 6, 7, 1);
+        x.pipe(0, 0, 19);
+        roundIs(x, NONE, NONE);
+        // tick 801, length 200
+        x = new TickGarden();
+        x.bucket(8, 18);
+        x.bucket(3, 1);
+        x.spout(1, 1, 10, 21);
+        x.pipe(0, 1, 18);
+        x.pipe(1, 0, 9);
+        x.dry(40);
         roundIs(x, NONE, NONE);
     }
 
